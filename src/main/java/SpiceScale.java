@@ -34,19 +34,19 @@ public final class SpiceScale {
     private static final int MOST_NUMBERS = 3;
 
     // An action that a text can name is told by its letter there.
-    private static final char FILL = 'f';
-    private static final char EMPTY = 'e';
-    private static final char BEAT = 'b';
-    private static final char WEIGH = 'w';
-    private static final char SELL = 's';
-    private static final char THUMB = 't';
-    private static final char OATH = 'o';
-    private static final char GO = 'g';
-    private static final char SEAL = 'x';
-    private static final char DAYS = 'n';
+    private static final int FILL = 'f';
+    private static final int EMPTY = 'e';
+    private static final int BEAT = 'b';
+    private static final int WEIGH = 'w';
+    private static final int SELL = 's';
+    private static final int THUMB = 't';
+    private static final int OATH = 'o';
+    private static final int GO = 'g';
+    private static final int SEAL = 'x';
+    private static final int DAYS = 'n';
     // No text can add jars or bags, so these are letters that no text may hold.
-    private static final char ADD_JAR = 'J';
-    private static final char ADD_BAG = 'B';
+    private static final int ADD_JAR = 'J';
+    private static final int ADD_BAG = 'B';
 
     private static final int OUT_OF_RANGE = 1;
     private static final int TOO_MANY = 2;
@@ -138,9 +138,7 @@ public final class SpiceScale {
     }
 
     public int bagOf(int bag, int what) throws IndexOutOfBoundsException, IllegalArgumentException {
-        if (!now.hasBag(bag)) {
-            throw new IndexOutOfBoundsException("no such bag");
-        }
+        checkBag(bag);
         switch (what) {
             case 0: return now.bagTare[bag];
             case 1: return now.bagDust[bag];
@@ -166,45 +164,33 @@ public final class SpiceScale {
     }
 
     public int told(int bag) throws IndexOutOfBoundsException {
-        if (!now.hasBag(bag)) {
-            throw new IndexOutOfBoundsException("no such bag");
-        }
+        checkBag(bag);
         return toldBy(now.weightsFor(now.loadOf(bag)));
     }
 
     public int toldAgain(int bag) throws IndexOutOfBoundsException {
-        if (!now.hasBag(bag)) {
-            throw new IndexOutOfBoundsException("no such bag");
-        }
+        checkBag(bag);
         int load = now.loadOf(bag);
         return load - now.restOf(load) + now.shortnessTogether(now.weightsFor(load));
     }
 
     public int onPan(int bag) throws IndexOutOfBoundsException {
-        if (!now.hasBag(bag)) {
-            throw new IndexOutOfBoundsException("no such bag");
-        }
+        checkBag(bag);
         return now.weightsFor(now.loadOf(bag));
     }
 
     public int rest(int bag) throws IndexOutOfBoundsException {
-        if (!now.hasBag(bag)) {
-            throw new IndexOutOfBoundsException("no such bag");
-        }
+        checkBag(bag);
         return now.restOf(now.loadOf(bag));
     }
 
     public int honest(int bag) throws IndexOutOfBoundsException {
-        if (!now.hasBag(bag)) {
-            throw new IndexOutOfBoundsException("no such bag");
-        }
+        checkBag(bag);
         return toldBy(now.weightsFor(now.bagTare[bag] + now.bagGrains[bag]));
     }
 
     public int pays(int market, int spice) throws IndexOutOfBoundsException, IllegalArgumentException {
-        if (!isMarket(market)) {
-            throw new IndexOutOfBoundsException("no such market");
-        }
+        checkMarket(market);
         if (!isSpice(spice)) {
             throw new IllegalArgumentException("no such spice");
         }
@@ -212,29 +198,20 @@ public final class SpiceScale {
     }
 
     public int wouldGet(int bag, int market) throws IndexOutOfBoundsException, NoSuchElementException {
-        if (!now.hasBag(bag) || !isMarket(market)) {
-            throw new IndexOutOfBoundsException("no such bag or market");
-        }
-        if (now.bagGrains[bag] == 0) {
-            throw new NoSuchElementException("the bag is empty");
-        }
+        checkBag(bag);
+        checkMarket(market);
+        checkFilled(bag);
         return now.coinsFor(bag, market, now.netOf(bag));
     }
 
     public int bestMarket(int bag) throws IndexOutOfBoundsException, NoSuchElementException {
-        if (!now.hasBag(bag)) {
-            throw new IndexOutOfBoundsException("no such bag");
-        }
-        if (now.bagGrains[bag] == 0) {
-            throw new NoSuchElementException("the bag is empty");
-        }
+        checkBag(bag);
+        checkFilled(bag);
         return now.marketThatGivesMost(bag);
     }
 
     public int oathUntil(int market) throws IndexOutOfBoundsException, NoSuchElementException {
-        if (!isMarket(market)) {
-            throw new IndexOutOfBoundsException("no such market");
-        }
+        checkMarket(market);
         if (!now.isOathInForce(market)) {
             throw new NoSuchElementException("no oath is in force there");
         }
@@ -242,9 +219,7 @@ public final class SpiceScale {
     }
 
     public boolean isNoticed(int market) throws IndexOutOfBoundsException {
-        if (!isMarket(market)) {
-            throw new IndexOutOfBoundsException("no such market");
-        }
+        checkMarket(market);
         return now.thumb > GREATEST_UNNOTICED[market];
     }
 
@@ -297,9 +272,7 @@ public final class SpiceScale {
     }
 
     public int line(int bag) throws IndexOutOfBoundsException {
-        if (!now.hasBag(bag)) {
-            throw new IndexOutOfBoundsException("no such bag");
-        }
+        checkBag(bag);
         writeLine(now.weightsFor(now.loadOf(bag)));
         return lineText.length();
     }
@@ -370,7 +343,25 @@ public final class SpiceScale {
         return now.day;
     }
 
-    private int change(char action, int first, int second, int third) throws UnsupportedOperationException {
+    private void checkBag(int bag) throws IndexOutOfBoundsException {
+        if (!now.hasBag(bag)) {
+            throw new IndexOutOfBoundsException("no such bag");
+        }
+    }
+
+    private static void checkMarket(int market) throws IndexOutOfBoundsException {
+        if (!isMarket(market)) {
+            throw new IndexOutOfBoundsException("no such market");
+        }
+    }
+
+    private void checkFilled(int bag) throws NoSuchElementException {
+        if (now.bagGrains[bag] == 0) {
+            throw new NoSuchElementException("the bag is empty");
+        }
+    }
+
+    private int change(int action, int first, int second, int third) throws UnsupportedOperationException {
         if (refusal.applies(now, action, first, second, third)) {
             throw new UnsupportedOperationException("it is refused");
         }
@@ -508,7 +499,7 @@ public final class SpiceScale {
             coinsGot = other.coinsGot;
         }
 
-        private int carryOut(char action, int first, int second, int third) {
+        private int carryOut(int action, int first, int second, int third) {
             switch (action) {
                 case ADD_JAR: return addJar(first, second);
                 case ADD_BAG: return addBag(first);
@@ -761,7 +752,7 @@ public final class SpiceScale {
         private int detail;
         private int command;
 
-        private boolean applies(Caravan caravan, char action, int first, int second, int third) {
+        private boolean applies(Caravan caravan, int action, int first, int second, int third) {
             switch (action) {
                 case ADD_JAR: return ofJar(caravan, first, second);
                 case ADD_BAG: return ofBag(caravan, first);
@@ -904,7 +895,7 @@ public final class SpiceScale {
         private final char[] characters;
         private int length;
         private int position;
-        private char action;
+        private int action;
         private final int[] numbers;
 
         private CommandText() {
@@ -944,7 +935,7 @@ public final class SpiceScale {
         }
 
         /** A digit of a form stands for a number of at most so many digits. */
-        private static String formBehind(char letter) {
+        private static String formBehind(int letter) {
             switch (letter) {
                 case FILL: return "1<1+3";
                 case EMPTY: return "1>1";

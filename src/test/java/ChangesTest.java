@@ -78,6 +78,8 @@ public final class ChangesTest {
             .due("days(50) = 0; restore() = 4; account(14) = 0; days(3) = 0; save() = 7; days(1) = 0; restore() = 7")
             .due("restore() = 7; account(0) = 7");
         new Run("undo leaves the snapshot").due("days(4) = 0; days(1) = 0; save() = 5; undo() = 1; undo() = 0; restore() = 5");
+        new Run("other jars and bags behind the snapshot").due("jar(3, 9) = 0; bag(20) = 0; save() = 0; undo() = 1; undo() = 0")
+            .due("jar(1, 5) = 0; bag(6) = 0; restore() = 0; jarOf(0, true) = 3; jarOf(0, false) = 9; bagOf(0, 0) = 20");
         new Run("a snapshot of a new object").due("save() = 0; bag(9) = 0; restore() = 0; account(5) = 0; bag(8) = 0")
             .due("bagOf(0, 0) = 8");
     }

@@ -17,8 +17,8 @@ public final class DaysAndOathsTest {
     }
 
     private static void oaths() {
-        new Run("oaths").due("thumb(7) = 0").refused("oath()", 9, 7)
-            .due("thumb(0) = 7; days(5) = 0; oath() = 24; account(14) = 4; oathUntil(0) = 24; account(12) = 1")
+        new Run("oaths").due("thumb(1) = 0").refused("oath()", 9, 1).due("thumb(7) = 1").refused("oath()", 9, 7)
+            .due("thumb(0) = 7; days(5) = 0; oath() = 24; account(14) = 5; oathUntil(0) = 24; account(12) = 1")
             .refused("oath()", 8, 20).due("days(18) = 0").refused("oath()", 8, 2)
             .due("days(1) = 0; oathUntil(0) = 24; account(12) = 1").refused("oath()", 8, 1)
             .due("days(1) = 0; account(12) = 0").thrown("NoSuchElementException", "oathUntil(0)")

@@ -58,6 +58,8 @@ public final class JarsAndBagsTest {
             .refused("fill(0, 1, 0)", 1, 0).refused("fill(0, 1, 1)", 4, 1).refused("fill(0, 1, 400)", 4, 1)
             .refused("fill(0, 2, 21)", 5, 20).refused("fill(0, 2, 20)", 7, 10).refused("fill(0, 2, 11)", 7, 10)
             .due("fill(0, 2, 10) = 400").refused("fill(0, 2, 1)", 7, 0);
+        new Run("one grain of another spice").due("jar(1, 900) = 0; jar(3, 500) = 1; bag(10) = 0; fill(0, 0, 1) = 1")
+            .refused("fill(0, 1, 1)", 4, 1).refused("fill(0, 1, 501)", 1, 0);
     }
 
     private static void emptying() {

@@ -6,6 +6,7 @@ public final class TextsTest {
         faults();
         allCharacters();
         longTexts();
+        textsBehindLongerOnes();
         commandsAsMethods();
         numbersInTexts();
         refusedTexts();
@@ -63,6 +64,14 @@ public final class TextsTest {
         new Run("a long text that ends too early").faulty("g1;" + "o;".repeat(28) + "w", 60);
         new Run("sixty faults").faulty("?".repeat(60), 0).faulty("t1;".repeat(20), 60);
         new Run("the most commands").refusedText("o" + ";o".repeat(29), 8, 20, 1);
+    }
+
+    /** What an earlier text left behind the end of a shorter one must not be read. */
+    private static void textsBehindLongerOnes() {
+        Run run = new Run("texts behind longer ones").due("jar(1, 100) = 0; jar(1, 100) = 1; bag(5) = 0");
+        run.done("f0<0+10;e0>1", 2).faulty("f0", 2).faulty("f0<0", 4).faulty("f0<0+10;e0", 10).faulty("f0<0+10;", 8)
+            .done("f0<0+1", 1).due("bagOf(0, 3) = 1").done("n60;o", 2).done("n6", 1).due("account(0) = 66")
+            .faulty("t1;".repeat(19) + "e0", 59).faulty("o;" + "t1;".repeat(18) + "f0<0", 60).faulty("o;o;" + "t1;".repeat(18) + "e0", 60);
     }
 
     private static void commandsAsMethods() {

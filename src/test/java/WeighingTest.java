@@ -6,6 +6,7 @@ public final class WeighingTest {
         gaps();
         shortWeights();
         mostShortness();
+        mostShortnessOfEach();
         usesCount();
         sealing();
         lines();
@@ -71,6 +72,31 @@ public final class WeighingTest {
         }
         heavy.due("weightOf(7, 2) = 168; weightOf(7, 1) = 20; weightOf(7, 3) = -1; account(13) = 22")
             .due("told(0) = 221; toldAgain(0) = 221; rest(0) = 0; onPan(0) = 145");
+    }
+
+    /** The weight alone holds the load at first, so that it is used each time. */
+    private static void mostShortnessOfEach() {
+        int[] tares = {10, 20, 50, 50, 50};
+        int[] grains = {0, 0, 0, 50, 150};
+        int[] most = {1, 2, 5, 10, 20};
+        for (int i = 0; i < 5; i++) {
+            int weight = 3 + i;
+            Run run = new Run("the most shortness of weight " + weight).due("jar(0, 900) = 0; bag(" + tares[i] + ") = 0");
+            if (grains[i] > 0) {
+                run.due("fill(0, 0, " + grains[i] + ") = " + grains[i]);
+            }
+            for (int shortness = 0; shortness < most[i]; shortness++) {
+                run.due("weightOf(" + weight + ", 1) = " + shortness + "; weightOf(" + weight + ", 3) = 8");
+                for (int use = 0; use < 7; use++) {
+                    run.scale.weigh(0);
+                }
+                run.due("weightOf(" + weight + ", 1) = " + shortness + "; weightOf(" + weight + ", 3) = 1").scale.weigh(0);
+            }
+            for (int use = 0; use < 9; use++) {
+                run.due("weightOf(" + weight + ", 1) = " + most[i] + "; weightOf(" + weight + ", 3) = -1").scale.weigh(0);
+            }
+            run.due("weightOf(" + weight + ", 2) = " + (8 * most[i] + 9)).due("seal(" + weight + ") = " + most[i]);
+        }
     }
 
     private static void usesCount() {
