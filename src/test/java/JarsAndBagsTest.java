@@ -33,7 +33,7 @@ public final class JarsAndBagsTest {
             .due("bag(5) = 0; bag(50) = 1; bag(6) = 2; bag(7) = 3; bag(8) = 4; account(5) = 5")
             .due("bag(9) = 5; account(5) = 6; account(14) = 6; account(7) = 0")
             .refused("bag(10)", 2, 6).refused("bag(4)", 1, 0)
-            .due("bagOf(0, 0) = 5; bagOf(1, 0) = 50; bagOf(5, 0) = 9");
+            .due("bagOf(0, 0) = 5; bagOf(1, 0) = 50; bagOf(5, 0) = 9; days(2) = 12; bagOf(5, 1) = 2; go(3) = 14");
     }
 
     private static void filling() {
