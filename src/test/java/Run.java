@@ -55,6 +55,30 @@ final class Run {
         return this;
     }
 
+    /** The call with each of the numbers in place of its #, refused for one reason with one detail. */
+    Run refusedFor(String call, int reason, int detail, int... numbers) {
+        for (int number : numbers) {
+            refused(call.replace("#", "" + number), reason, detail);
+        }
+        return this;
+    }
+
+    /** The same for the reason 3: there is none of that number. */
+    Run missingFor(String call, int... numbers) {
+        for (int number : numbers) {
+            refused(call.replace("#", "" + number), 3, number);
+        }
+        return this;
+    }
+
+    /** The same for an exception. */
+    Run thrownFor(String exception, String call, int... numbers) {
+        for (int number : numbers) {
+            thrown(exception, call.replace("#", "" + number));
+        }
+        return this;
+    }
+
     Run reasonIs(int reason, int detail, int command) {
         return due("reason(0) = " + reason + "; reason(1) = " + detail + "; reason(2) = " + command);
     }
