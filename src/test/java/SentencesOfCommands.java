@@ -194,6 +194,9 @@ final class SentencesOfCommands {
             .due("weigh(0) = 12; bag(8) = 1; restore() = 3; account(5) = 1; bagOf(0, 5) = 0; bagOf(0, 1) = 3")
             .due("account(14) = 0").due("weigh(0) = 12; beat(0) = 3; restore() = 3; bagOf(0, 5) = 0; bagOf(0, 1) = 3")
             .due("weightOf(3, 2) = 0; restore() = 3; account(14) = 0").thrown(STATE, "undo()");
+        document.again().due("jar(3, 9) = 0; bag(20) = 0; save() = 0; undo() = 1; undo() = 0; jar(1, 5) = 0; bag(6) = 0")
+            .due("jar(2, 4) = 1; bag(7) = 1; restore() = 0; account(4) = 1; account(5) = 1; jarOf(0, true) = 3")
+            .due("jarOf(0, false) = 9; bagOf(0, 0) = 20; jar(0, 1) = 1; bag(8) = 1; bagOf(1, 0) = 8; jarOf(1, false) = 1");
         document.says("Returns the day.").due("save() = 0; days(9) = 0; restore() = 0; account(0) = 0; days(60) = 0")
             .due("save() = 60; days(1) = 0; restore() = 60");
         document.says("Throws IllegalStateException if there is no snapshot").thrown(STATE, "restore()")
