@@ -16,8 +16,9 @@ final class Document {
     private String sentence = "";
 
     Document() throws IOException {
-        text = Files.readString(Path.of("../shared/DOC.md")).replace("`", "").replaceAll("\\s+", " ");
+        text = Files.readString(Path.of("../shared/DOC.md")).replace("```text", "").replace("`", "").replaceAll("\\s+", " ");
         isQuoted = new boolean[text.length()];
+        to = text.length();
     }
 
     /** A heading, with the signature behind it: what is quoted next stands below it. */
@@ -49,7 +50,18 @@ final class Document {
         return new Run(sentence);
     }
 
-    /** What another test has, word for word. */
+    /** The document's own examples, each a new run whose calls are due as they are written there. */
+    int runExamples() {
+        Matcher matcher = Pattern.compile(" \\d\\. ([^:.;]+): (jar\\(|bag\\()(.*?)\\.(?= \\d\\. | ## )").matcher(text);
+        int count = 0;
+        while (matcher.find()) {
+            new Run(matcher.group(1)).due(matcher.group(2) + matcher.group(3));
+            count++;
+        }
+        return count;
+    }
+
+    /** What another test has, or what no test can show: it must stand in the document word for word. */
     void testedElsewhere(String firstWords, String lastWords) {
         int start = text.indexOf(firstWords, from);
         int last = start < 0 ? -1 : text.indexOf(lastWords, start);
@@ -60,12 +72,10 @@ final class Document {
         }
     }
 
-    void isQuotedBetween(String firstWords, String lastWords) {
-        int start = text.indexOf(firstWords);
-        int end = text.indexOf(lastWords);
-        new Run("the document").same("order of " + firstWords + " and " + lastWords, start >= 0 && end > start, true);
+    /** From its first line to its last. */
+    void isQuotedWhole() {
         StringBuilder left = new StringBuilder();
-        for (int i = Math.max(0, start); i < end; i++) {
+        for (int i = 0; i < text.length(); i++) {
             if (!isQuoted[i]) {
                 left.append(text.charAt(i));
             } else if (left.length() > 0 && left.charAt(left.length() - 1) != '|') {

@@ -50,6 +50,12 @@ public final class FaceTest {
                 fault("the face lacks: " + matcher.group(1));
             }
         }
+        Matcher lines = Pattern.compile("^(import .*;|public .*\\{)$", Pattern.MULTILINE).matcher(document);
+        while (lines.find()) {
+            if (!program.contains("\n" + lines.group(1) + "\n") && !program.startsWith(lines.group(1) + "\n")) {
+                fault("the program lacks: " + lines.group(1));
+            }
+        }
         Matcher own = Pattern.compile("^    public .*", Pattern.MULTILINE).matcher(program);
         int ownCount = 0;
         while (own.find()) {
